@@ -497,7 +497,7 @@ public final class SwallowSurvey {
         }
 
         int add(int a, int b, int c, int d, int e) {
-            if (count >= most) {
+            if (isFull()) {
                 return NONE;
             }
             int at = count * WIDE;
@@ -508,6 +508,10 @@ public final class SwallowSurvey {
             items[at + 4] = e;
             count++;
             return count - 1;
+        }
+
+        boolean isFull() {
+            return count >= most;
         }
 
         int get(int i, int column) {
@@ -528,7 +532,12 @@ public final class SwallowSurvey {
     private static final class Threads {
         final int[] owner = new int[YARDS];
         final int[] step = new int[YARDS];
-        final Rows suits = new Rows(MOST_SUITS);
+        final Rows suits;
+
+        /** Threads in thought need no SUITS: there most is 0, and none is looked for. */
+        Threads(int mostSuits) {
+            suits = new Rows(mostSuits);
+        }
 
         void clear() {
             Arrays.fill(owner, NONE);
@@ -551,6 +560,9 @@ public final class SwallowSurvey {
 
         /** A SUIT if a thread of another swallow touches the POINT to which this one has come. */
         void sueAt(Duchy duchy, int who, int x, int y, int now) {
+            if (suits.isFull()) {
+                return;
+            }
             int other = NONE;
             for (int heading = 0; heading < 4; heading++) {
                 int yard = duchy.yardFrom(x, y, heading);
@@ -608,7 +620,7 @@ public final class SwallowSurvey {
         final Rows claims = new Rows(MOST_CLAIMS);
         final Habit[] habits = new Habit[HABITS];
         private final Habit emptyHabit = new Habit(0, new int[0]);
-        final Threads threads = new Threads();
+        final Threads threads = new Threads(MOST_SUITS);
 
         /** All is as at first but STATE. */
         void startAnew(int width, int height) {
@@ -995,7 +1007,7 @@ public final class SwallowSurvey {
 
     /** What would be: a SURVEY in thought, on threads of its own. */
     private static final class Thought {
-        private final Threads threads = new Threads();
+        private final Threads threads = new Threads(0);
         /** CELLS without a POND, in rising order. */
         private final int[] dry = new int[MOST_PLAN_CELLS];
         private int dryCount;
@@ -1222,6 +1234,43 @@ public final class SwallowSurvey {
 
         /** The HABIT; null with a FAULT, which fault and place tell. */
         Habit read(int[] tape, int length) {
+            begin();
+            int end = Math.min(length, tape.length);
+            for (int i = 0; i <= end && fault == 0; i++) {
+                skipBlanks(tape, end);
+                place = next;
+                readToken(tape, end);
+                if (token == THE_END && state == WANT_LINE) {
+                    return new Habit(lines, Arrays.copyOf(code, codeLength));
+                }
+                switch (state) {
+                    case WANT_LINE:
+                        fault = takeLine();
+                        break;
+                    case WANT_WHEN:
+                        fault = takeWhen();
+                        break;
+                    case WANT_CONDITION:
+                        fault = takeCondition();
+                        break;
+                    case WANT_UNIT:
+                        fault = takeUnit();
+                        break;
+                    case WANT_DIVISOR:
+                        fault = takeDivisor();
+                        break;
+                    case AFTER_UNIT:
+                        fault = takeAfterUnit();
+                        break;
+                    default:
+                        fault = takeAfterCondition();
+                        break;
+                }
+            }
+            return null;
+        }
+
+        private void begin() {
             codeLength = 0;
             pendingCount = 0;
             state = WANT_LINE;
@@ -1230,27 +1279,12 @@ public final class SwallowSurvey {
             brackets = 0;
             next = 0;
             fault = 0;
-            place = NONE;
-            int end = Math.min(length, tape.length);
-            for (int i = 0; i <= end; i++) {
-                place = skipBlanks(tape, end);
-                readToken(tape, end);
-                if (token == THE_END && state == WANT_LINE) {
-                    return new Habit(lines, Arrays.copyOf(code, codeLength));
-                }
-                fault = takeToken();
-                if (fault != 0) {
-                    return null;
-                }
-            }
-            return null;
         }
 
-        private int skipBlanks(int[] tape, int end) {
+        private void skipBlanks(int[] tape, int end) {
             while (next < end && (tape[next] == 32 || tape[next] == 10)) {
                 next++;
             }
-            return next;
         }
 
         private void readToken(int[] tape, int end) {
@@ -1324,30 +1358,11 @@ public final class SwallowSurvey {
             return NONE;
         }
 
-        /** The FAULT of the TOKEN, or 0. */
-        private int takeToken() {
-            switch (state) {
-                case WANT_LINE:
-                    return takeLine();
-                case WANT_WHEN:
-                    return takeWhen();
-                case WANT_CONDITION:
-                    return takeCondition();
-                case WANT_UNIT:
-                    return takeUnit();
-                case WANT_DIVISOR:
-                    return takeDivisor();
-                case AFTER_UNIT:
-                    return takeAfterUnit();
-                default:
-                    return takeAfterCondition();
-            }
-        }
-
         private boolean isWord(int word) {
             return token == WORD && tokenValue == word;
         }
 
+        /** Each of these answers the FAULT of the TOKEN, or 0. */
         private int takeLine() {
             if (token != WORD || tokenValue > STOP) {
                 return FAULT_PLACE;
