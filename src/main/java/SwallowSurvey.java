@@ -407,7 +407,7 @@ public final class SwallowSurvey {
 
     public int look(int what) {
         if (within(what, 10, 10 + HABITS - 1)) {
-            return duchy.habits[what - 10].lines;
+            return duchy.habitAt(what - 10).lines;
         }
         switch (what) {
             case 0:
@@ -733,9 +733,13 @@ public final class SwallowSurvey {
             return false;
         }
 
+        Habit habitAt(int k) {
+            Habit told = k >= 0 && k < HABITS ? habits[k] : null;
+            return told == null ? emptyHabit : told;
+        }
+
         Habit habitOf(int swallow) {
-            int k = swallows.get(swallow, 4);
-            return k >= 0 && k < HABITS ? habits[k] : emptyHabit;
+            return habitAt(swallows.get(swallow, 4));
         }
 
         int nearestNest(int x, int y) {

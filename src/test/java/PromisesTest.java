@@ -1,78 +1,5 @@
 /** For each promise: ordinary inputs, the edges that the document names, and wrong inputs. */
-public final class PromisesTest {
-    private static final int NONE = SwallowSurvey.NONE;
-    private static final int MIN = Integer.MIN_VALUE;
-    private static final int MAX = Integer.MAX_VALUE;
-    private static int wrong = 0;
-    private static int checks = 0;
-    private static int promise = 0;
-
-    private static void due(String what, long got, long want) {
-        checks++;
-        if (got != want) {
-            wrong++;
-            System.out.println("promise " + promise + ": " + what + " answered " + got + ", due is " + want);
-        }
-    }
-
-    private static void due(String what, boolean got, boolean want) {
-        due(what, got ? 1 : 0, want ? 1 : 0);
-    }
-
-    /** Puts a text on the TAPE. */
-    private static void tape(SwallowSurvey s, String text) {
-        s.end(0);
-        StringBuilder padded = new StringBuilder(text);
-        while (padded.length() % 20 != 0) {
-            padded.append(' ');
-        }
-        for (int i = 0; i < padded.length(); i += 20) {
-            s.feed(four(padded, i), four(padded, i + 4), four(padded, i + 8), four(padded, i + 12),
-                    four(padded, i + 16));
-        }
-        s.end(text.length());
-    }
-
-    private static int four(CharSequence text, int at) {
-        int number = 0;
-        for (int i = at; i < at + 4; i++) {
-            number = number << 8 | text.charAt(i) & 255;
-        }
-        return number;
-    }
-
-    private static int habit(SwallowSurvey s, int k, String text) {
-        tape(s, text);
-        return s.text(k);
-    }
-
-    private static SwallowSurvey withHabit(String text) {
-        SwallowSurvey s = new SwallowSurvey();
-        due("text " + text, habit(s, 0, text) != NONE, true);
-        return s;
-    }
-
-    private static void dueFault(String text, int kind, int place) {
-        SwallowSurvey s = new SwallowSurvey();
-        due("text " + text, habit(s, 0, text), NONE);
-        due("fault(0) of " + text, s.fault(0), kind);
-        due("fault(1) of " + text, s.fault(1), place);
-    }
-
-    private static void dueLines(String text, int lines) {
-        SwallowSurvey s = new SwallowSurvey();
-        due("text " + text, habit(s, 0, text), lines);
-        due("fault(0) of " + text, s.fault(0), 0);
-        due("fault(1) of " + text, s.fault(1), NONE);
-    }
-
-    private static void dueEnd(SwallowSurvey s, int swallow, int x, int y, int steps, int heading) {
-        due("ends(" + swallow + ", 0)", s.ends(swallow, 0), x);
-        due("ends(" + swallow + ", 1)", s.ends(swallow, 1), y);
-        due("ends(" + swallow + ", 2)", s.ends(swallow, 2), steps);
-        due("ends(" + swallow + ", 3)", s.ends(swallow, 3), heading);
-    }
-
+public final class PromisesTest extends Checks {
     public static void main(String[] args) {
         promise1();
         promise2();
@@ -104,14 +31,11 @@ public final class PromisesTest {
         promise28();
         promise29();
         promise30();
-        System.out.println(checks + " checks, " + wrong + " wrong");
-        if (wrong != 0) {
-            System.exit(1);
-        }
+        finish();
     }
 
     private static void promise1() {
-        promise = 1;
+        sentence("promise 1");
         SwallowSurvey s = new SwallowSurvey();
         int[] first = {6, 6, 0, 0, 0, 0, 1, 0, 0, 0, 0, 0, 0, 0};
         for (int what = 0; what < first.length; what++) {
@@ -131,7 +55,7 @@ public final class PromisesTest {
     }
 
     private static void promise2() {
-        promise = 2;
+        sentence("promise 2");
         SwallowSurvey s = new SwallowSurvey();
         due("state(5)", s.state(5), 0);
         due("state(-7)", s.state(-7), 5);
@@ -141,7 +65,7 @@ public final class PromisesTest {
     }
 
     private static void promise3() {
-        promise = 3;
+        sentence("promise 3");
         SwallowSurvey s = busy();
         due("land(1, 2)", s.land(1, 2), false);
         due("land(2, 1)", s.land(2, 1), false);
@@ -202,7 +126,7 @@ public final class PromisesTest {
     }
 
     private static void promise4() {
-        promise = 4;
+        sentence("promise 4");
         SwallowSurvey s = new SwallowSurvey();
         due("tell(0, 0, 99)", s.tell(0, 0, 99), true);
         due("of(0, 0)", s.of(0, 0), 99);
@@ -236,7 +160,7 @@ public final class PromisesTest {
     }
 
     private static void promise5to7() {
-        promise = 5;
+        sentence("promise 5");
         SwallowSurvey s = new SwallowSurvey();
         due("dig(0)", s.dig(0), true);
         due("dig(0) again", s.dig(0), false);
@@ -246,13 +170,13 @@ public final class PromisesTest {
             due("fill(" + cell + ")", s.fill(cell), false);
         }
         due("look(9)", s.look(9), 1);
-        promise = 6;
+        sentence("promise 6");
         due("fill(1)", s.fill(1), false);
         due("fill(0)", s.fill(0), true);
         due("of(0, 2)", s.of(0, 2), 0);
         due("fill(0) again", s.fill(0), false);
         due("look(9)", s.look(9), 2);
-        promise = 7;
+        sentence("promise 7");
         due("undo() of fill", s.undo(), true);
         due("of(0, 2)", s.of(0, 2), 1);
         due("undo() of dig", s.undo(), true);
@@ -290,7 +214,7 @@ public final class PromisesTest {
     }
 
     private static void promise8() {
-        promise = 8;
+        sentence("promise 8");
         SwallowSurvey s = new SwallowSurvey();
         due("barn(55)", s.barn(55), true);
         due("barn(55) again", s.barn(55), false);
@@ -325,7 +249,7 @@ public final class PromisesTest {
     }
 
     private static void promise9() {
-        promise = 9;
+        sentence("promise 9");
         SwallowSurvey s = withHabit("left when step=0;right when step=1;back when step=2;");
         s.swallow(3, 3, 0, 3, 0);
         dueEnd(s, 0, 2, 3, 3, 2);
@@ -350,7 +274,7 @@ public final class PromisesTest {
     }
 
     private static void promise10() {
-        promise = 10;
+        sentence("promise 10");
         SwallowSurvey s = new SwallowSurvey();
         due("nest(7, 0)", s.nest(7, 0), NONE);
         due("nest(0, 7)", s.nest(0, 7), NONE);
@@ -364,7 +288,7 @@ public final class PromisesTest {
     }
 
     private static void promise11() {
-        promise = 11;
+        sentence("promise 11");
         SwallowSurvey s = new SwallowSurvey();
         int[][] wrongs = {{7, 0, 0, 1, 0}, {0, 7, 0, 1, 0}, {-1, 0, 0, 1, 0}, {0, -1, 0, 1, 0}, {0, 0, -1, 1, 0},
             {0, 0, 4, 1, 0}, {0, 0, 0, -1, 0}, {0, 0, 0, 61, 0}, {0, 0, 0, 1, -1}, {0, 0, 0, 1, 4},
@@ -381,7 +305,7 @@ public final class PromisesTest {
     }
 
     private static void promise12and13() {
-        promise = 12;
+        sentence("promise 12");
         SwallowSurvey s = new SwallowSurvey();
         // "left", ";   ", then high bytes that can't stand.
         due("feed", s.feed(0x6c656674, 0x3b202020, 0xff202020, 0x80000001, -1), 20);
@@ -393,7 +317,7 @@ public final class PromisesTest {
         due("feed beyond 400", s.feed(0, 0, 0, 0, 0), NONE);
         due("end(381)", s.end(381), true);
         due("feed beyond 400", s.feed(0, 0, 0, 0, 0), NONE);
-        promise = 13;
+        sentence("promise 13");
         due("end(382)", s.end(382), false);
         due("end(-1)", s.end(-1), false);
         due("end(MIN)", s.end(MIN), false);
@@ -409,7 +333,7 @@ public final class PromisesTest {
     }
 
     private static void promise14() {
-        promise = 14;
+        sentence("promise 14");
         SwallowSurvey s = new SwallowSurvey();
         due("an empty TEXT", s.text(0), 0);
         due("text(3)", habit(s, 3, "left; right;\nback;"), 3);
@@ -444,7 +368,7 @@ public final class PromisesTest {
     }
 
     private static void promise15() {
-        promise = 15;
+        sentence("promise 15");
         SwallowSurvey s = new SwallowSurvey();
         for (int what : new int[] {2, -1, MIN, MAX}) {
             due("fault(" + what + ")", s.fault(what), NONE);
@@ -529,7 +453,7 @@ public final class PromisesTest {
     }
 
     private static void promise16() {
-        promise = 16;
+        sentence("promise 16");
         SwallowSurvey s = new SwallowSurvey();
         due("survey() without swallows", s.survey(), 1);
         s.swallow(3, 0, 2, 5, 0);
@@ -572,7 +496,7 @@ public final class PromisesTest {
     }
 
     private static void promise16Suits() {
-        promise = 16;
+        sentence("promise 16");
         SwallowSurvey s = new SwallowSurvey();
         s.swallow(2, 0, 2, 6, 0);
         s.swallow(4, 0, 2, 6, 0);
@@ -604,7 +528,7 @@ public final class PromisesTest {
 
     /** What the keywords mean, each seen by a turn that hangs on it. */
     private static void promise16Values() {
-        promise = 16;
+        sentence("promise 16");
         int[][] leftRight = {{22, 23}, {23, 33}, {33, 32}, {32, 22}};
         for (int heading = 0; heading < 4; heading++) {
             int left = leftRight[heading][0];
@@ -655,14 +579,8 @@ public final class PromisesTest {
         due(when + " by HEADING " + heading + " with CELL " + cell, s.ends(0, 3), (heading + 2 * turned) % 4);
     }
 
-    private static void dueSo(String when, boolean so) {
-        SwallowSurvey s = withHabit("back when " + when + ";");
-        s.swallow(3, 3, 0, 1, 0);
-        due(when, s.ends(0, 3) == 2, so);
-    }
-
     private static void promise16Signs() {
-        promise = 16;
+        sentence("promise 16");
         dueSo("1<2", true);
         dueSo("2<2", false);
         dueSo("2=2", true);
@@ -700,7 +618,7 @@ public final class PromisesTest {
     }
 
     private static void promise17() {
-        promise = 17;
+        sentence("promise 17");
         SwallowSurvey s = new SwallowSurvey();
         s.land(3, 2);
         s.dig(1);
@@ -739,7 +657,7 @@ public final class PromisesTest {
     }
 
     private static void promise18() {
-        promise = 18;
+        sentence("promise 18");
         SwallowSurvey s = new SwallowSurvey();
         s.dig(11);
         s.dig(12);
@@ -768,7 +686,7 @@ public final class PromisesTest {
     }
 
     private static void promise19() {
-        promise = 19;
+        sentence("promise 19");
         SwallowSurvey s = new SwallowSurvey();
         s.swallow(1, 0, 2, 3, 0);
         s.swallow(0, 2, 1, 3, 0);
@@ -790,7 +708,7 @@ public final class PromisesTest {
     }
 
     private static void promise20() {
-        promise = 20;
+        sentence("promise 20");
         SwallowSurvey s = new SwallowSurvey();
         due("suit(0, 0)", s.suit(0, 0), NONE);
         s.swallow(2, 0, 2, 6, 0);
@@ -817,7 +735,7 @@ public final class PromisesTest {
     }
 
     private static void promise21() {
-        promise = 21;
+        sentence("promise 21");
         SwallowSurvey s = new SwallowSurvey();
         s.swallow(3, 0, 2, 6, 0);
         s.swallow(0, 3, 1, 6, 0);
@@ -842,7 +760,7 @@ public final class PromisesTest {
     }
 
     private static void promise22() {
-        promise = 22;
+        sentence("promise 22");
         SwallowSurvey s = withHabit("left when thread=1;");
         s.swallow(2, 0, 2, 6, 1);
         s.swallow(2, 3, 2, 2, 0);
@@ -868,7 +786,7 @@ public final class PromisesTest {
     }
 
     private static void promise23() {
-        promise = 23;
+        sentence("promise 23");
         // Two threads part the land in three; each stops if there is a POND beside its first YARD.
         SwallowSurvey s = withHabit("stop when pl+pr>0;");
         s.land(6, 4);
@@ -923,15 +841,8 @@ public final class PromisesTest {
         duePlan(s, 0, 1, 3, 2, 1, 10);
     }
 
-    private static void duePlan(SwallowSurvey s, int a, int b, int price, int count, int one, int other) {
-        due("plan(" + a + ", " + b + ", 0)", s.plan(a, b, 0), price);
-        due("plan(" + a + ", " + b + ", 1)", s.plan(a, b, 1), count);
-        due("plan(" + a + ", " + b + ", 2)", s.plan(a, b, 2), one);
-        due("plan(" + a + ", " + b + ", 3)", s.plan(a, b, 3), other);
-    }
-
     private static void promise24() {
-        promise = 24;
+        sentence("promise 24");
         SwallowSurvey s = new SwallowSurvey();
         int[][] wrongs = {{6, 1, 1}, {60, 1, 1}, {-1, 1, 1}, {0, -1, 1}, {0, 100, 1}, {0, 1, -1}, {0, 1, 11},
             {MIN, MAX, MIN}};
@@ -948,7 +859,7 @@ public final class PromisesTest {
     }
 
     private static void promise25() {
-        promise = 25;
+        sentence("promise 25");
         SwallowSurvey s = withHabit("stop when fl>10;");
         s.swallow(3, 0, 2, 6, 0);
         due("odds without HATCHINGS", s.odds(0, 5), 0);
@@ -985,7 +896,7 @@ public final class PromisesTest {
     }
 
     private static void promise26() {
-        promise = 26;
+        sentence("promise 26");
         SwallowSurvey s = new SwallowSurvey();
         due("claim(0, 0, true)", s.claim(0, 0, true), false);
         due("claim(0, 6, true)", s.claim(0, 6, true), false);
@@ -1000,7 +911,7 @@ public final class PromisesTest {
     }
 
     private static void promise27() {
-        promise = 27;
+        sentence("promise 27");
         SwallowSurvey s = withHabit("stop when fl>10;");
         s.swallow(2, 0, 2, 6, 0);
         s.swallow(4, 0, 2, 6, 0);
@@ -1030,14 +941,8 @@ public final class PromisesTest {
         dueBack(s, 2, 0, 0);
     }
 
-    private static void dueBack(SwallowSurvey s, int count, int common, int least) {
-        due("back(0)", s.back(0), count);
-        due("back(1)", s.back(1), common);
-        due("back(2)", s.back(2), least);
-    }
-
     private static void promise28() {
-        promise = 28;
+        sentence("promise 28");
         SwallowSurvey s = new SwallowSurvey();
         due("part(0, 55)", s.part(0, 55), 2);
         due("part(11, 44)", s.part(11, 44), 4);
@@ -1066,7 +971,7 @@ public final class PromisesTest {
     }
 
     private static void promise29() {
-        promise = 29;
+        sentence("promise 29");
         SwallowSurvey s = busy();
         s.survey();
         s.dig(0);
@@ -1140,7 +1045,7 @@ public final class PromisesTest {
     }
 
     private static void promise30() {
-        promise = 30;
+        sentence("promise 30");
         SwallowSurvey s = busy();
         habit(s, 3, "left;right;");
         s.land(7, 8);
