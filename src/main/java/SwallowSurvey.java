@@ -497,7 +497,7 @@ public final class SwallowSurvey {
         }
 
         int add(int a, int b, int c, int d, int e) {
-            if (isFull()) {
+            if (count >= most) {
                 return NONE;
             }
             int at = count * WIDE;
