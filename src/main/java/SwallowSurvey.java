@@ -174,6 +174,9 @@ public final class SwallowSurvey {
         }
         changedCount--;
         int cell = changed[changedCount];
+        if (!duchy.hasCell(cell)) {
+            return false;
+        }
         duchy.pond[cell] = 1 - duchy.pond[cell];
         return true;
     }
@@ -492,8 +495,8 @@ public final class SwallowSurvey {
         int count;
 
         Rows(int most) {
-            this.most = most;
-            items = new int[most * WIDE];
+            this.most = Math.max(most, 0);
+            items = new int[this.most * WIDE];
         }
 
         int add(int a, int b, int c, int d, int e) {
@@ -891,7 +894,7 @@ public final class SwallowSurvey {
             int length = duchy.swallows.get(who, 3);
             x = duchy.swallows.get(who, 0);
             y = duchy.swallows.get(who, 1);
-            heading = duchy.swallows.get(who, 2);
+            heading = duchy.swallows.get(who, 2) & 3;
             boolean flying = true;
             int steps = 0;
             while (flying && steps < length) {
@@ -1080,7 +1083,7 @@ public final class SwallowSurvey {
         }
 
         private static int priceOf(Duchy duchy, int cell) {
-            return cell == NONE ? 0 : duchy.price[cell];
+            return duchy.hasCell(cell) ? duchy.price[cell] : 0;
         }
 
         /** Of 10 to the number of HATCHINGS, how many times a and b are in one COUNTY. */
@@ -1194,6 +1197,9 @@ public final class SwallowSurvey {
             for (int i = 0; i < CELLS && at != a && cameBy[at] != NONE; i++) {
                 int side = cameBy[at];
                 int before = at - DX[side] - DY[side] * CELL_ROW;
+                if (before < 0 || before >= CELLS) {
+                    return;
+                }
                 flow[before * 4 + side]++;
                 flow[at * 4 + (side + 2 & 3)]--;
                 at = before;

@@ -77,7 +77,8 @@ public final class RulesTest {
         must(fields <= 20, c + " has at most some twenty fields");
         for (Method m : c.getDeclaredMethods()) {
             must(m.getParameterCount() <= 7, m + " takes at most seven parameters");
-            must(!nested || FACE.stream().noneMatch(f -> f.contains(" " + m.getName() + "(")),
+            must(!nested && Modifier.isPublic(m.getModifiers())
+                    || FACE.stream().noneMatch(f -> f.contains(" " + m.getName() + "(")),
                     m + " bears no name of the face");
         }
     }
@@ -99,7 +100,7 @@ public final class RulesTest {
         }
         Matcher calls = Pattern.compile("\\b(Arrays|System|Math|Integer|Long)\\.(\\w+)").matcher(code);
         while (calls.find()) {
-            must(Set.of("Arrays.fill", "Arrays.copyOf", "System.arraycopy", "Math.abs", "Math.min")
+            must(Set.of("Arrays.fill", "Arrays.copyOf", "System.arraycopy", "Math.abs", "Math.max", "Math.min")
                     .contains(calls.group()), calls.group() + " is of the library that is left");
         }
         methodLengths(code.split("\n"));
